@@ -430,8 +430,8 @@ public final class Layerwright {
         needState(book.count < STATEMENTS);
     }
 
+    /** Fields are asked for before. */
     private static boolean isFirstNumber(int kind, int a) {
-        if (kind == SAME || kind == LESS) return isBelow(a, FIELDS);
         if (kind <= WHEN) return isWithin(a, 0, GREATEST);
         return kind == IMPORT ? isWithin(a, 1, VERSIONS) : a == 0;
     }
@@ -706,7 +706,7 @@ public final class Layerwright {
 
         private final Sets full = new Sets(), spare = new Sets();
         private final Statement[] suspects = new Statement[STATEMENTS];
-        private final int[] suspectBits = new int[STATEMENTS];
+        private final int[] suspectBits = new int[STATEMENTS], suspectFields = new int[STATEMENTS];
         private int suspectCount;
         private boolean isSettled, isConflictSought;
         private int conflictFound;
@@ -873,6 +873,7 @@ public final class Layerwright {
                 if (book.statements[i].counts) {
                     suspects[suspectCount] = book.statements[i];
                     suspectBits[suspectCount] = 1 << i;
+                    suspectFields[suspectCount] = book.statements[i].fields();
                     suspectCount++;
                 }
             }
@@ -880,7 +881,7 @@ public final class Layerwright {
 
         /** Statements without a common field do not clash unless fewer of them do, which was asked before. */
         private boolean isJoined(int i, int j) {
-            return (suspects[i].fields() & suspects[j].fields()) != 0;
+            return (suspectFields[i] & suspectFields[j]) != 0;
         }
 
         private boolean isChain(int i, int j, int k) {
@@ -1199,24 +1200,20 @@ public final class Layerwright {
             boolean isWanted = estate.hasKey(name);
             if (entry == null) return isWanted ? TO_MAKE : KEPT;
             if (!isWanted) return TO_DESTROY;
-            return entry.isTainted ? TO_REPLACE : findDifference(name);
-        }
-
-        private int findDifference(int name) {
-            int found = KEPT;
+            if (entry.isTainted) return TO_REPLACE;
+            int need = KEPT;
             for (int a = 0; a < ATTRIBUTES; a++) {
                 if (!isDiffering(name, a, gives[name * ATTRIBUTES + a])) continue;
                 if (estate.typeOf(name).is(a, FORCES)) return TO_REPLACE;
-                found = TO_CHANGE;
+                need = TO_CHANGE;
             }
-            return found;
+            return need;
         }
 
-        /** Whether the entry of a name differs in an attribute from what its source gives. */
+        /** Whether the entry of a name differs from what a source gives; it always does from nothing (-1). */
         boolean isDiffering(int name, int attribute, int given) {
             Entry entry = estate.entries[name];
             if (entry == null || estate.typeOf(name).is(attribute, COMPUTED)) return false;
-            if (given == NONE) return true;
             return entry.values[attribute] != given && !entry.isAdoptedOn(attribute, given);
         }
 

@@ -27,6 +27,7 @@ final class ApplyingTest {
         Runs.run("promise 32, another serial", "generator 0; key 0 0 3; plan 0; approve 0 1; upgrade 1; apply 0 ! state; isApplying = 0; rebase 0; apply 0 = 1");
         Runs.run("promise 32, another action", "generator 0; key 0 0 3; key 0 0 4; plan 0; approve 0 1; unkey 0 0; apply 0 ! state; key 0 0 4; tell 0 0 0 5 0; tell 0 0 0 6 0; apply 0 ! state; remove 1; key 0 0 5; apply 0 = 2; step 0 = 103; step 0 = 104; isApplying = 0; pending = 1");
         Runs.run("promise 32, locked", "generator 0; key 0 0 3; key 0 0 4; plan 0; plan 0; approve 0 1; approve 1 1; apply 0 = 2; apply 1 ! state; step 2 = 103; isLocked = 1; apply 1 ! state; pass 2; apply 1 ! state; pass 1; apply 1 = 2; step 0; step 0; apply 0 ! state");
+        Runs.run("promise 32, asked behind a change", "generator 0; bind 0 0 0; tell 0 0 0 5 0; key 0 0 3; plan 0; approve 0 1; remove 0; apply 0 ! state; tell 0 0 0 6 0; apply 0 = 1; step 0; stored 3 0 = 6");
         Runs.run("promise 32, once", "generator 0; key 0 0 3; plan 0; approve 0 1; apply 0; pass 3; isApplying = 0; isStale 0 = 0; apply 0 ! state; serial = 0");
     }
 
@@ -63,6 +64,9 @@ final class ApplyingTest {
     private static void changing() {
         Runs.run("CHANGE", "setType 0 0 0 0 0 1; tell 0 0 0 5 0; tell 0 0 1 6 0; generator 0; key 0 0 3; make 0; change 0 2 7; take 3 0; bind 0 0 0; plan 0; approve 0 1; apply 0; change 0 1 9; step 0 = 203; stored 3 0 = 5; stored 3 1 = 0; stored 3 2 = 0",
                 "real 0 0 = 5; real 0 1 = 9; real 0 2 = 0; entry 3 = 0; serial = 2; pending = 0");
+        Runs.run("CHANGE of another resource than the first", "tell 0 0 0 5 0; generator 0; key 0 0 3; make 0; make 0; make 0; take 3 2; bind 0 1 0; plan 0; approve 0 1; apply 0; step 0 = 203; real 2 1 = 5; real 0 1 = 0; real 1 1 = 0; stored 3 1 = 5; entry 3 = 200");
+        Runs.run("CHANGE, what is adopted, attribute by attribute", "setType 0 0 0 0 0 1; tell 0 0 0 5 0; tell 0 0 1 6 0; generator 0; bind 0 0 0; bind 0 1 0; bind 0 2 0; key 0 0 3; plan 0; approve 0 1; apply 0; step 0; change 0 0 20; change 0 1 21; change 0 2 22; read = 3; entry 3 = 70",
+                "bind 0 1 1; plan 0; approve 1 1; apply 1; step 0 = 203; entry 3 = 50; bind 0 2 1; plan 0; approve 2 1; apply 2; step 0 = 203; entry 3 = 10; bind 0 0 1; plan 0; approve 3 1; apply 3; step 0 = 203; entry 3 = 0; stored 3 0 = 6; stored 3 1 = 6; stored 3 2 = 6");
         Runs.run("CHANGE, what differs then", "tell 0 0 0 5 0; tell 0 0 1 6 0; generator 0; key 0 0 3; make 0; take 3 0; bind 0 0 0; plan 0; approve 0 1; apply 0; bind 0 0 -1; bind 0 1 1; step 0 = 203; stored 3 0 = 0; stored 3 1 = 6; real 0 1 = 6; pending = 0");
         Runs.run("CHANGE, nothing differs then", "tell 0 0 0 5 0; generator 0; key 0 0 3; make 0; take 3 0; bind 0 0 0; plan 0; approve 0 1; apply 0; bind 0 0 -1; change 0 0 9; step 0 = 203; stored 3 0 = 0; real 0 0 = 9; serial = 2; isApplying = 0");
         Runs.run("CHANGE, an attribute that forces", "setType 0 1 0 0 0 0; tell 0 0 0 5 0; generator 0; key 0 0 3; make 0; take 3 0; bind 0 1 0; plan 0; approve 0 1; apply 0; bind 0 0 0; step 0 = 203; stored 3 0 = 5; stored 3 1 = 5; pending = 0");
@@ -116,6 +120,8 @@ final class ApplyingTest {
         Runs.run("left out, one that fails by itself", start, "tell 0 0 0 5 0; bind 0 2 0; plan 0; approve 0 1; apply 0; remove 0; step 0 = 103; tell 0 0 0 5 0; step 0 = 104; step 0 = 120; step 0 = 136; isApplying = 0");
         Runs.run("left out, the failed name's later actions", start, "plan 0; approve 0 1; apply 0; step 0; step 0; step 0; step 0; step 0; step 0; pending = 0; tell 0 0 0 5 0; bind 0 0 0; plan 0; approve 1 1; apply 1 = 6",
                 "step 1 = 103; step 0 = 104; step 0 = 220; step 0 = 404; isApplying = 0; real 0 0 = 0; real 1 0 = -1; entry 3 = 601; stored 20 0 = 11; given 36 2 = 20");
+        Runs.run("left out, the name 0 and a source that is the attribute 0", "setType 0 2 0 0 0 0; generator 0; generator 1; bind 1 2 10; key 0 0 0; key 1 0 0; plan 0; approve 0 1; apply 0; step 1 = 100; isApplying = 0; plan 0; approve 1 1; apply 1 = 3; step 0 = 300; step 0 = 100; step 0 = 116; isApplying = 0; pending = 0",
+                "unkey 1 0; unkey 0 0; plan 0; approve 2 1; apply 2 = 2; step 0 = 316; step 0 = 300; isApplying = 0; entry 0 = -1");
         Runs.run("left out, what has nothing to do with it", start, "bind 2 2 -1; plan 0; approve 0 1; apply 0; step 1 = 103; step 0 = 104; step 0 = 120; step 0 = 135; step 0 = 136; isApplying = 0");
         Runs.run("left out, a DESTROY of a dependent", start, "plan 0; approve 0 1; apply 0; step 0; step 0; step 0; step 0; step 0; step 0; tell 0 0 0 5 0; bind 0 0 0; unkey 2 0; unkey 1 0; plan 0; pending = 7",
                 "approve 1 1; apply 1; step 0 = 103; step 1 = 104; step 0 = 219; step 0 = 336; step 0 = 403; isApplying = 0; entry 36 = -1; entry 20 = 300");

@@ -50,6 +50,10 @@ final class FaceTest {
             String name = line.substring(line.indexOf(' ') + 1, line.indexOf('('));
             if (inner.contains(name)) Runs.fail("a private method bears a public name: " + name);
         }
+        for (Class<?> nested : Layerwright.class.getDeclaredClasses()) {
+            Runs.same(nested + " is private and static", Modifier.isPrivate(nested.getModifiers()) && Modifier.isStatic(nested.getModifiers()) ? 1 : 0, 1);
+            Runs.same(nested + " has some twenty fields at most", nested.getDeclaredFields().length <= 20 ? 1 : 0, 1);
+        }
         TreeSet<String> constants = new TreeSet<>();
         for (Field field : Layerwright.class.getDeclaredFields()) {
             if (!Modifier.isPrivate(field.getModifiers())) constants.add(Modifier.toString(field.getModifiers()) + " " + field.getType() + " " + field.getName());

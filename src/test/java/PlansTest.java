@@ -76,6 +76,9 @@ final class PlansTest {
 
     private static void differing() {
         Runs.run("promise 26", "differing = 0; generator 0; key 0 0 3; differing = 1; key 0 0 4; differing = 2; make 0; take 3 0; differing = 1; unkey 0 1; differing = 2; unkey 0 0; differing = 1; destroy 0; differing = 1; read; differing = 0");
+        Runs.run("promise 26, the name 0", "generator 0; generator 1; key 0 0 0; differing = 1; make 0; take 0 0; differing = 0; unkey 0 0; differing = 1; pending = 1; plan 0; action 0 0 = 300");
+        Runs.run("promise 26, asked behind a change", "generator 0; bind 0 0 0; key 0 0 0; differing = -1; tell 0 0 0 5 0; differing = 1; tell 0 0 0 6 0; differing = -1");
+        Runs.run("promise 26, dependents of a computed value 0", "setType 0 2 1 0 0 0; generator 0; generator 1; bind 1 0 10; key 0 0 0; key 1 0 0; plan 0; approve 0 1; apply 0; step 0; step 0; stored 16 0 = 0; differing = 0; tell 0 0 0 5 0; bind 0 1 0; differing = 2; pending = 3");
         Runs.run("promise 26, nothing is made", "generator 0; key 0 0 3; differing = 1; resources = 0; serial = 0; entry 3 = -1; differing = 1");
         Runs.run("promise 26, doubled", "setType 0 2 1 0 0 0; generator 0; generator 0; bind 1 1 10; key 0 0 3; key 1 0 3; plan 0; approve 0 1; apply 0; step 0; step 0; differing = 0; upgrade 0; differing = 0; change 0 1 7; read = 1; differing = 0",
                 "change 0 1 8; read = 1; differing = 1; pending = 2");

@@ -83,6 +83,9 @@ final class TypesTest {
         Runs.run("upgrade, adopted", "setType 0 0 0 0 0 1; tell 0 0 0 5 0; generator 0; bind 0 0 0; key 0 0 3; plan 0; approve 0 1; apply 0; step 0; change 0 0 9; read = 1; entry 3 = 10; pending = 0",
                 "upgrade 0; entry 3 = 20; stored 3 1 = 18; pending = 0; change 0 2 1; read = 1; entry 3 = 60; upgrade 0; entry 3 = 50; stored 3 0 = 36; stored 3 2 = 2; pending = 0",
                 "remove 0; tell 0 0 0 9 0; pending = 0; given 3 0 = 36; remove 1; tell 0 0 0 8 0; pending = 1; remove 2; tell 0 0 0 5 0; pending = 0");
+        Layerwright object = Runs.run("upgrade, sixty resources", "generator 0; key 0 0 0");
+        for (int i = 0; i < 60; i++) Runs.more(object, "upgrade, sixty resources", "make " + i % 2 + " = " + i);
+        Runs.more(object, "upgrade, sixty resources", "change 58 0 7; change 59 0 7; change 0 2 3; take 0 0; upgrade 0 = 1; real 58 0 = 0; real 58 1 = 14; real 59 0 = 7; stored 0 2 = 6; real 0 2 = 6; upgrade 1 = 1; real 59 1 = 14; real 58 1 = 14");
         Runs.run("upgrade, another type's entries", "generator 0; generator 1; key 0 0 3; make 0; change 0 0 5; take 3 0; bind 0 0 0; tell 0 0 0 5 0; upgrade 1; stored 3 0 = 5; stored 3 1 = 0; given 3 0 = 5; pending = 0");
     }
 
@@ -98,6 +101,7 @@ final class TypesTest {
     }
 
     private static void given() {
+        Runs.run("promise 24, the value 0", "tell 0 0 0 0 0; generator 0; bind 0 1 0; given 0 1 = 0; key 0 0 3; pending = 1; differing = 1; upgrade 0; given 3 0 = 0");
         Runs.run("promise 24", "given 0 0 ! index; setType 0 2 0 0 0 0; generator 0; given -1 0 ! index; given 16 0 ! index; given 0 -1 ! index; given 0 3 ! index; given 15 2 = 0",
                 "given 0 0 = 0; given 0 1 = 0; bind 0 1 4; given 0 1 = -1; tell 0 0 4 9 0; given 0 1 = 9; given 7 1 = 9; given 0 2 = 0; tell 0 0 5 1 0; tell 0 0 5 2 0; given 0 1 = -1; given 0 2 = 0",
                 "remove 2; given 0 1 = 9; remove 0; tell 0 4 4 8 0; given 0 1 = 8");

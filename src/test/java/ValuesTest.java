@@ -198,6 +198,7 @@ final class ValuesTest {
         Runs.run("promise 17, joined", "tell 0 11 0 0 0; tell 0 5 1 0 1; tainted = 3; tell 0 6 1 2 0; tainted = 7; tell 0 6 3 2 0; tainted = 15; tell 0 5 5 4 1; tainted = 15",
                 "tell 0 5 4 3 1; tainted = 63; conflict = 0");
         Runs.run("promise 17, joined the other way round", "tell 0 11 0 0 0; tell 0 5 0 1 1; tainted = 3; tell 0 6 1 2 0; tainted = 7");
+        Runs.run("promise 17, the first statement joins", "tell 0 6 1 2 0; tell 0 5 2 3 0; tell 0 11 3 0 0; tainted = 14; tell 1 7 3 1 0; tell 1 4 9 1 0; tainted = 526");
         Runs.run("promise 17, those that count", "tell 0 11 0 0 0; tell 1 7 5 1 0; tell 1 5 1 0 0 = 2; tainted = 1; tell 2 0 5 1 0 = 3; tainted = 3; lock 1 3; tainted = 1; lock 1 -1",
                 "tell 3 10 1 0 0; tainted = 1");
         Runs.run("promise 17, not by defaults", "tell 0 11 0 0 0; tell 1 7 5 1 0; tell 1 5 1 0 0 = 2; tell 2 4 5 1 0; value 5 = 1; tainted = 1");

@@ -47,6 +47,7 @@ final class WorldTest {
         Runs.run("promise 44", "read = 0; serial = 0; setType 0 0 2 4 0 0; tell 0 0 0 5 0; generator 0; bind 0 0 0; key 0 0 3; key 0 0 4; plan 0; approve 0 1; apply 0; read ! state; step 0; step 0; read = 0; change 0 0 9; change 0 1 8; change 0 2 7; read = 2; serial = 3",
                 "stored 3 0 = 9; stored 3 1 = 8; stored 3 2 = 0; entry 3 = 0; pending = 1; read = 0; serial = 3; change 1 0 1; destroy 0; read = 101; serial = 4; entry 3 = -1; entry 4 = 100; stored 4 0 = 1; read = 0");
         Runs.run("promise 44, no entry", "make 0; change 0 0 9; read = 0; destroy 0; read = 0; serial = 0; generator 0; key 0 0 3; read = 0");
+        Runs.run("promise 44, the name 0", "generator 0; make 0; take 0 0; change 0 0 9; read = 1; stored 0 0 = 9; destroy 0; read = 100; entry 0 = -1");
         Runs.run("promise 44, no key", "generator 0; make 0; take 3 0; change 0 0 9; read = 1; stored 3 0 = 9; destroy 0; read = 100; entry 3 = -1");
         Runs.run("promise 44, write-only", "setType 0 4 6 0 0 1; generator 0; key 0 0 3; plan 0; approve 0 1; apply 0; step 0; change 0 0 9; change 0 1 9; read = 0; stored 3 0 = 0; stored 3 1 = 3; entry 3 = 0");
         Runs.run("promise 44, a value back to what it was", "generator 0; make 0; take 3 0; change 0 0 9; change 0 0 0; read = 0; serial = 1");
@@ -61,6 +62,7 @@ final class WorldTest {
         Runs.run("adopting, the source gives nothing", start, "change 0 0 9; remove 0; read = 1; entry 3 = 0; stored 3 0 = 9; tell 0 0 0 5 0; pending = 1");
         Runs.run("adopting, a conflict", start, "change 0 0 9; change 0 2 9; tell 0 0 4 5 0; tell 0 0 4 6 0; read = 2; entry 3 = 40");
         Runs.run("adopting, no key", start, "change 0 0 9; unkey 0 0; read = 1; entry 3 = 0; key 0 0 3; pending = 1");
+        Runs.run("adopting, no more, attribute by attribute", "setType 0 0 0 0 0 1; tell 0 0 0 5 0; generator 0; bind 0 1 0; bind 0 2 0; key 0 0 3; plan 0; approve 0 1; apply 0; step 0; change 0 1 9; change 0 2 9; read = 2; entry 3 = 60; change 0 2 8; unkey 0 0; read = 1; entry 3 = 20; change 0 1 8; read = 1; entry 3 = 0");
         Runs.run("adopting, no more", start, "change 0 0 9; read = 1; entry 3 = 10; change 0 0 8; remove 0; read = 1; entry 3 = 0; stored 3 0 = 8");
         Runs.run("adopting, an attribute that forces", "setType 0 1 0 0 0 1; tell 0 0 0 5 0; generator 0; bind 0 0 0; key 0 0 3; plan 0; approve 0 1; apply 0; step 0; change 0 0 9; read = 1; pending = 0; remove 0; tell 0 0 0 6 0; pending = 2; plan 0; approve 1 1; apply 1; step 0; step 0; entry 3 = 100; stored 3 0 = 6");
         Runs.run("mending", "tell 0 0 0 5 0; generator 0; bind 0 0 0; key 0 0 3; plan 0; approve 0 1; apply 0; step 0; change 0 0 9; read = 1; entry 3 = 0; pending = 1; plan 0; approve 1 1; apply 1; step 0 = 203; real 0 0 = 5; stored 3 0 = 5");
