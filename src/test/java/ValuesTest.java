@@ -174,6 +174,10 @@ final class ValuesTest {
         Runs.run("promise 14, three where two share no field", "tell 0 1 0 0 3; tell 0 1 1 9 63; tell 0 5 1 0 5; conflict = 7");
         Runs.run("promise 14, three in a row", "tell 0 6 0 1 0; tell 0 6 1 2 0; tell 0 6 2 0 0; conflict = 7");
         Runs.run("promise 14, three of one field", "tell 0 2 0 1 2; tell 0 2 0 2 3; tell 0 2 0 3 1; conflict = 7");
+        Runs.run("promise 14, a ring that does not close", "tell 0 5 2 0 0; tell 0 5 2 1 0; tell 0 5 1 0 12; conflict = 7");
+        Layerwright object = new Layerwright();
+        for (int i = 0; i < 30; i++) Runs.more(object, "promise 14, thirty", "tell 0 6 " + i % 5 + " " + (i + 1) % 5 + " 0 = " + i);
+        Runs.more(object, "promise 14, thirty", "conflict = -1; value 9 = -2; remove 0; conflict = -1");
         Runs.run("promise 14, joined one way round", "tell 0 5 0 1 1; tell 0 0 0 1 0; tell 0 3 1 0 0; conflict = 7");
     }
 
