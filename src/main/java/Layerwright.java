@@ -684,13 +684,13 @@ public final class Layerwright {
             return by >= 0 ? set << by : set >>> -by;
         }
 
+        /** Shifted twice, here and in above, since a shift by 64 would shift by nothing. */
         private static long below(long set) {
-            return set == 0 ? 0 : (1L << greatest(set)) - 1;
+            return set == 0 ? 0 : -1L >>> Long.numberOfLeadingZeros(set) >>> 1;
         }
 
-        /** Shifted twice, since a shift by 64 would shift by nothing. */
         private static long above(long set) {
-            return set == 0 ? 0 : -1L << least(set) << 1;
+            return set == 0 ? 0 : -1L << Long.numberOfTrailingZeros(set) << 1;
         }
     }
 

@@ -1,5 +1,6 @@
 import java.lang.reflect.InvocationTargetException;
 import java.lang.reflect.Method;
+import java.lang.reflect.Modifier;
 import java.util.HashMap;
 import java.util.Map;
 
@@ -9,17 +10,19 @@ import java.util.Map;
  * state), or "name numbers" where the answer does not matter. Booleans are 1 and 0.
  */
 final class Runs {
-    private static final Map<String, Method> METHODS = new HashMap<>();
+    private static final Map<String, Method> METHODS = methodsOf(Layerwright.class), MODEL_METHODS = methodsOf(Model.class);
     private static int wrong = 0;
     private static int done = 0;
 
-    static {
-        for (Method method : Layerwright.class.getDeclaredMethods()) {
-            if (java.lang.reflect.Modifier.isPublic(method.getModifiers())) METHODS.put(method.getName(), method);
-        }
+    private Runs() {
     }
 
-    private Runs() {
+    private static Map<String, Method> methodsOf(Class<?> face) {
+        Map<String, Method> methods = new HashMap<>();
+        for (Method method : face.getDeclaredMethods()) {
+            if (!Modifier.isPrivate(method.getModifiers())) methods.put(method.getName(), method);
+        }
+        return methods;
     }
 
     /** Runs the lines on a new object, and returns it. */
@@ -56,9 +59,9 @@ final class Runs {
         if (mayThrow) same(title + ": " + text + " changes nothing", Snapshot.of(object), before);
     }
 
-    /** Makes a call; the answer as a number, "! kind" for one of the three exceptions. */
-    static String answerOf(Layerwright object, String name, int... numbers) {
-        Method method = METHODS.get(name);
+    /** Makes a call of the program or the model; the answer as a number, "! kind" for one of the three exceptions. */
+    static String answerOf(Object object, String name, int... numbers) {
+        Method method = (object instanceof Model ? MODEL_METHODS : METHODS).get(name);
         if (method == null || method.getParameterCount() != numbers.length) {
             throw new AssertionError("no such call: " + name + " with " + numbers.length + " numbers");
         }

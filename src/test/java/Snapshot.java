@@ -5,7 +5,7 @@ final class Snapshot {
     private Snapshot() {
     }
 
-    static String of(Layerwright object) {
+    static String of(Object object) {
         StringBuilder text = new StringBuilder();
         rows(text, object, "standing", STATEMENTS);
         rows(text, object, "value", 10);
@@ -26,7 +26,7 @@ final class Snapshot {
     }
 
     /** Stops at the first number that does not exist. */
-    private static void rows(StringBuilder text, Layerwright object, String name, int count) {
+    private static void rows(StringBuilder text, Object object, String name, int count) {
         text.append(name);
         for (int i = 0; i < count; i++) {
             String answer = Runs.answerOf(object, name, i);
@@ -36,7 +36,7 @@ final class Snapshot {
         text.append('\n');
     }
 
-    private static void tables(StringBuilder text, Layerwright object, String name, int count, int columns) {
+    private static void tables(StringBuilder text, Object object, String name, int count, int columns) {
         text.append(name);
         for (int i = 0; i < count; i++) {
             boolean exists = true;
