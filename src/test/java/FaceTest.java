@@ -26,7 +26,7 @@ final class FaceTest {
         "int make(int) index state", "int read() state", "int move(int, int) index state", "int take(int, int) index state"};
     private static final String[] NOT_WANTED = {"->", "::", "try", "catch", "finally", "synchronized", "assert", "static {",
         "System.out", "Exact(", "Random", "Thread", "import java.io", "record ", "protected"};
-    private static final int LONGEST_METHOD = 60, MOST_CLASSES = 12;
+    private static final int LONGEST_METHOD = 60, MOST_CLASSES = 12, MOST_PARAMETERS = 7;
 
     private FaceTest() {
     }
@@ -51,6 +51,7 @@ final class FaceTest {
             if (inner.contains(name)) Runs.fail("a private method bears a public name: " + name);
         }
         for (Class<?> nested : Layerwright.class.getDeclaredClasses()) {
+            members(nested, found.toString());
             Runs.same(nested + " is private and static", Modifier.isPrivate(nested.getModifiers()) && Modifier.isStatic(nested.getModifiers()) ? 1 : 0, 1);
             Runs.same(nested + " has some twenty fields at most", nested.getDeclaredFields().length <= 20 ? 1 : 0, 1);
         }
@@ -64,6 +65,18 @@ final class FaceTest {
         Runs.same("the constructor", constructors[0].toString(), "public Layerwright()");
         Runs.same("the class", Modifier.toString(Layerwright.class.getModifiers()), "public final");
         Runs.same("few classes", 1 + Layerwright.class.getDeclaredClasses().length <= MOST_CLASSES ? 1 : 0, 1);
+    }
+
+    /** No method inside bears the name of one of the face or takes many parameters, and statics do not change. */
+    private static void members(Class<?> nested, String face) {
+        for (Method method : nested.getDeclaredMethods()) {
+            if (method.isSynthetic()) continue;
+            if (face.contains(" " + method.getName() + "(")) Runs.fail("a method inside bears a public name: " + method);
+            if (method.getParameterCount() > MOST_PARAMETERS) Runs.fail("many parameters: " + method);
+        }
+        for (Field field : nested.getDeclaredFields()) {
+            if (Modifier.isStatic(field.getModifiers()) && !Modifier.isFinal(field.getModifiers())) Runs.fail("not final: " + field);
+        }
     }
 
     private static String signature(Method method) {
